@@ -550,7 +550,14 @@ public final class SolverHouse {
             at = 0;
             boolean fine = true;
             for (int n = 0; n <= MOST_TOKENS && fine && kind() != END; n++) {
-                fine = item();
+                switch (kind()) {
+                    case W_VAR: fine = varItem(); break;
+                    case W_TABLE: fine = tableItem(); break;
+                    case W_RULE: fine = ruleItem(); break;
+                    case W_SOFT: fine = softItem(); break;
+                    case W_COST: fine = costItem(); break;
+                    default: fine = stop(); break;
+                }
             }
             if (fine) {
                 spare.measure();
@@ -586,12 +593,12 @@ public final class SolverHouse {
 
         /** The token here can't stand here. */
         private boolean stop() {
-            return refuse(kind() == STRAY ? FAULT_STRAY : FAULT_ORDER, start());
+            return refuse(tokens.kind(at) == STRAY ? FAULT_STRAY : FAULT_ORDER, tokens.start(at));
         }
 
         /** What begins here stands within too many others. */
         private boolean stopDeep() {
-            return refuse(kind() == STRAY ? FAULT_STRAY : FAULT_MUCH, start());
+            return refuse(tokens.kind(at) == STRAY ? FAULT_STRAY : FAULT_MUCH, tokens.start(at));
         }
 
         /** Takes the token here, which has been looked at. */
@@ -615,17 +622,6 @@ public final class SolverHouse {
                 }
             }
             return refuse(found, tokens.start(at));
-        }
-
-        private boolean item() {
-            switch (kind()) {
-                case W_VAR: return varItem();
-                case W_TABLE: return tableItem();
-                case W_RULE: return ruleItem();
-                case W_SOFT: return softItem();
-                case W_COST: return costItem();
-                default: return stop();
-            }
         }
 
         /** Takes a NAME that isn't told yet. */
@@ -943,29 +939,26 @@ public final class SolverHouse {
         }
 
         private boolean fits(int depth) {
-            if (!next() || !take('(') || !exp(depth + 1) || !restOfTask(depth + 1)) {
+            if (!next() || !take('(')) {
                 return false;
             }
-            int tasks = 1;
+            int tasks = 0;
             for (int n = 0; n < MOST_TOKENS; n++) {
                 if (!exp(depth + 1)) {
                     return false;
                 }
-                // Only the sign behind it tells whether this exp begins a task.
-                if (kind() != ',') {
+                // Behind the first task only the sign behind an exp tells whether it begins one.
+                if (tasks > 0 && kind() != ',') {
                     emit(S_FITS, tasks);
                     return take(')');
                 }
-                if (!restOfTask(depth + 1)) {
+                boolean task = take(',') && exp(depth + 1) && take(',') && exp(depth + 1) && take('|');
+                if (!task) {
                     return false;
                 }
                 tasks++;
             }
             return stop();
-        }
-
-        private boolean restOfTask(int depth) {
-            return take(',') && exp(depth) && take(',') && exp(depth) && take('|');
         }
 
         private boolean inTable(int depth) {
@@ -1046,7 +1039,7 @@ public final class SolverHouse {
         /** The first variable of the row that stands alone here, -1 when none does. */
         private int rowAlone() {
             int next = tokens.kind(at + 1);
-            if (kind() != NAME || next != ',' && next != ')' && next != '|') {
+            if (tokens.kind(at) != NAME || next != ',' && next != ')' && next != '|') {
                 return -1;
             }
             int row = spare.findVariable(tokens.text(at));
@@ -1338,7 +1331,7 @@ public final class SolverHouse {
 
         /** Where number i of row r of table t lies, -1 when there is nothing. */
         int spot(int t, int r, int i) {
-            if (!has(t) || r < 0 || r >= rows[t] || i < 0 || i >= widths[t]) {
+            if (t < 0 || t >= count || r < 0 || r >= rows[t] || i < 0 || i >= widths[t]) {
                 return -1;
             }
             return t * MOST_NUMBERS + r * widths[t] + i;
@@ -1934,24 +1927,27 @@ public final class SolverHouse {
         };
         // Bit s of these tells that some plan breaks no other rules than those of s.
         private int[] words = new int[0];
+        private int used;
 
-        void clear() {
+        /** Begins with no plans; what they break will lie within these rules. */
+        void begin(int rulesOn) {
             if (words.length == 0) {
-                words = new int[1 << MOST_ITEMS - 5];
+                words = new int[1 << (MOST_ITEMS - 5)];
             }
-            Arrays.fill(words, 0);
+            used = Math.max(0, Math.min((rulesOn >> 5) + 1, words.length));
+            Arrays.fill(words, 0, used, 0);
         }
 
         void addBroken(int set) {
             int word = set >> 5;
-            if (word >= 0 && word < words.length) {
+            if (word >= 0 && word < used) {
                 words[word] |= 1 << (set & 31);
             }
         }
 
         private boolean breaksNoOther(int set) {
             int word = set >> 5;
-            return word >= 0 && word < words.length && (words[word] >> (set & 31) & 1) != 0;
+            return word >= 0 && word < used && (words[word] >> (set & 31) & 1) != 0;
         }
 
         int smallest(int rulesOn) {
@@ -1968,12 +1964,12 @@ public final class SolverHouse {
         /** What breaks no other rules than those of a set does so of each larger set too. */
         private void spread() {
             for (int k = 0; k < WITHOUT.length; k++) {
-                for (int w = 0; w < words.length; w++) {
+                for (int w = 0; w < used; w++) {
                     words[w] |= (words[w] & WITHOUT[k]) << (1 << k);
                 }
             }
-            for (int bit = 1; bit < words.length; bit <<= 1) {
-                for (int w = bit; w < words.length; w++) {
+            for (int bit = 1; bit < used; bit <<= 1) {
+                for (int w = bit; w < used; w++) {
                     words[w] |= (w & bit) != 0 ? words[w ^ bit] : 0;
                 }
             }
@@ -2169,7 +2165,7 @@ public final class SolverHouse {
         int findCore(Problem q) {
             int rulesOn = q.rules.rulesOn();
             boolean any = false;
-            core.clear();
+            core.begin(rulesOn);
             int left = begin(q);
             for (int n = 0; n < left; n++) {
                 int state = stateHere(q);

@@ -7,6 +7,7 @@ public final class FaultTest {
         order();
         tooMuch();
         tokens401();
+        sweep401();
         depth();
         again();
         none();
@@ -49,6 +50,17 @@ public final class FaultTest {
         fault(1, "var x 0..^.1;");
         fault(1, "var ^abcdefghi 0..1;");
         fine("var abcdefgh 0..1;", 2);
+        fine("var AZaz09 0..1; var BYby18 0..1;", 4);
+        String signs = "+-*/()[]{},;:=<>|";
+        for (char b = 0; b < 256; b++) {
+            boolean blank = b == 9 || b == 10 || b == 13 || b == 32 || b == '#';
+            boolean letter = b >= 'A' && b <= 'Z' || b >= 'a' && b <= 'z';
+            boolean token = letter || b >= '0' && b <= '9' || signs.indexOf(b) >= 0;
+            SolverHouse house = new SolverHouse();
+            int answer = Checks.read(house, 0, "var x 0..1;\t" + b);
+            CHECKS.due("byte " + (int) b, answer, blank ? 2 : token ? -12 : -11);
+            CHECKS.due("place of byte " + (int) b, house.place(), blank ? -2 : 12);
+        }
         fine("var a1B2c3D4 0..1;", 2);
         fault(1, "var ^distincts 0..1;");
         fault(1, "var x ^00001..1;");
@@ -169,6 +181,34 @@ public final class FaultTest {
         fault(2, tokens(396) + "; var x ^..");
         fault(3, tokens(398).replace(":", ":-") + ";^var");
         fault(2, tokens(398).replace(":", ":-") + ";^;");
+    }
+
+    /** Each token of these items in turn is the 401st. */
+    private static void sweep401() {
+        String[] items = {
+            "var x [ 2 ] - 3 .. - 1 ;", "table u = - 1 , 2 | 3 , - 4 ;", "rule r : not { 1 = 1 } and 1 != 2 or 1 < 2 -> 1 > 2 ;",
+            "soft 1 2 : distinct ( q , 1 ) and ordered ( q ) and circuit ( 1 ) ;",
+            "rule fits ( 1 , 2 , 3 | 4 , 5 , 6 | 7 ) and in t ( 1 , 2 ) ;", "cost 0 : q [ 1 ] + t [ 0 ] - w [ 0 , 0 ] ;",
+            "cost 2 : min ( 1 , q ) * max ( q ) / sum ( q , 1 ) mod abs ( - 1 ) + count ( q , 1 | 2 ) - ( 1 ) ;"
+        };
+        String head = "var q [ 2 ] 0 .. 1 ; table t = 1 , 2 ; table w = 1 | 2 ; ";
+        int before = head.split(" ").length;
+        for (String item : items) {
+            String[] tokens = item.split(" ");
+            StringBuilder done = new StringBuilder();
+            for (int i = 0; i < tokens.length; i++) {
+                String text = head + filler(400 - before - i) + done;
+                fault(3, text + "^" + item.substring(done.length()));
+                done.append(tokens[i]).append(' ');
+            }
+            fine(head + filler(400 - before - tokens.length) + item, item.startsWith("var") ? 36 : 4);
+        }
+    }
+
+    /** A cost of so many tokens. */
+    private static String filler(int n) {
+        int odd = (n - 5) % 2;
+        return "cost 0 : " + times(odd, "-") + "1" + times((n - 5) / 2, "+1") + "; ";
     }
 
     private static void depth() {

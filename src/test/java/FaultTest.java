@@ -15,6 +15,7 @@ public final class FaultTest {
         alone();
         ahead();
         problems();
+        nothingStays();
         CHECKS.end();
     }
 
@@ -372,5 +373,23 @@ public final class FaultTest {
         CHECKS.due("all on", house.told(2, 11, 0) + house.told(2, 11, 1), 2);
         CHECKS.due("slot 0 is empty", house.told(0, 0, 0), -2);
         CHECKS.due("slot 3 is empty", house.told(3, 0, 0), -2);
+    }
+
+    /** Names and numbers of older texts do not shine through. */
+    private static void nothingStays() {
+        String[] texts = {
+            "var a 0..1; table b = 1; rule c: a = b[0];", "var b[2] 0..1; table c = 1 | 2; rule a: b[0] = c[1, 0];",
+            "var c 0..1; table a = 1, 2; rule b: c = a[1];", "rule a: 1 = 1; rule b: 1 = 1; rule c: 1 = 1;",
+            "var a 0..1; var b 0..1; var c 0..1;", "table a = 1; table b = 2; table c = 3;"
+        };
+        int[] spaces = {2, 4, 2, 1, 8, 1};
+        SolverHouse house = new SolverHouse();
+        for (int n = 0; n < 60; n++) {
+            int i = n * 7 % texts.length;
+            if (n % 5 == 0) {
+                CHECKS.due("none yet", Checks.read(house, n % 3, "rule a = b[0] or c = 1;"), -15);
+            }
+            CHECKS.due("again " + texts[i], Checks.read(house, n % 3, texts[i]), spaces[i]);
+        }
     }
 }

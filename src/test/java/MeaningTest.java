@@ -12,6 +12,8 @@ public final class MeaningTest {
         asking();
         specials();
         fitting();
+        fullTables();
+        longTexts();
         CHECKS.end();
     }
 
@@ -230,5 +232,45 @@ public final class MeaningTest {
         rule("fits(0, 1000 * 1000, 1 | 999 * 1000, 1, 1 | 1)", false);
         rule("fits(0, 999 * 1000, 1 | 999 * 1000, 1000 * 1000, 1 | 1)", true);
         rule("fits(0, 1, 1000 * 1000 | 0, 1, 1000 * 1000 | 1000 * 1000)", false);
+    }
+
+    private static void fullTables() {
+        StringBuilder text = new StringBuilder("var x 0..30; ");
+        for (char t = 'a'; t <= 'h'; t++) {
+            int size = t == 'b' || t > 'f' ? 24 : 2;
+            text.append("table ").append(t).append(" = ");
+            for (int i = 0; i < size; i++) {
+                text.append(i).append(i + 1 == size ? ";" : i % 2 == 0 ? "," : "|");
+            }
+        }
+        SolverHouse house = CHECKS.house(text + "rule in h (x, x + 1) and in b (x, x + 1); cost 0: h[11, 1];");
+        CHECKS.due("rows of a full table", house.allowed(0), 12);
+        house.plan(0, 0, 22);
+        CHECKS.due("its last row", house.judge(0), 1);
+        CHECKS.due("its last number", house.score(0), 23);
+    }
+
+    /** As many numbers and conds as 400 tokens can hold. */
+    private static void longTexts() {
+        StringBuilder sum = new StringBuilder("var q[8] 1..1; cost 0: sum(q");
+        StringBuilder chain = new StringBuilder("rule 1 = 1");
+        StringBuilder nots = new StringBuilder("cost 0: -----------1");
+        for (int n = 1; n < 192; n++) {
+            sum.append(",q");
+        }
+        for (int n = 1; n < 98; n++) {
+            chain.append(" -> 1 = 1");
+        }
+        for (int n = 1; n < 30; n++) {
+            nots.append("+-----------1");
+        }
+        SolverHouse house = CHECKS.house(sum + ");");
+        CHECKS.due("judge of a long sum", house.judge(0), 1);
+        CHECKS.due("a long sum", house.score(0), 1536);
+        CHECKS.due("a long chain", CHECKS.house(chain + ";").judge(0), 1);
+        CHECKS.due("a long chain to what is not true", CHECKS.house(chain + " -> 1 = 2;").judge(0), 0);
+        house = CHECKS.house(nots + ";");
+        CHECKS.due("judge of many -", house.judge(0), 1);
+        CHECKS.due("many -", house.score(0), -30);
     }
 }

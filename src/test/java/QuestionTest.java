@@ -278,6 +278,9 @@ public final class QuestionTest {
         due("without costs", house.nearest(0), 2);
         due("the first: a", house.value(0, 0), 0);
         due("the first: b", house.value(0, 1), 2);
+        Checks.read(house, 2, "var q[8] 0..1; var r[4] 0..1; rule sum(q, r) = 12;");
+        due("all twelve change", house.nearest(2), 12);
+        due("the last one", house.value(2, 11), 1);
         due("nearest p 1", house.nearest(1), -2);
         due("nearest p -1", house.nearest(-1), -1);
         due("nothing was judged", house.score(0), -2);

@@ -15,6 +15,12 @@ public final class SolverHouse {
     private static final int NO_VALUE = 10000;
     private static final int NO_PAIR = 10000000;
 
+    // The last whats of told() that are of all, of a variable, and of a rule, soft or cost.
+    private static final int TOLD_LEFT = 4;
+    private static final int TOLD_PINNED = 7;
+    private static final int TOLD_ON = 11;
+    private static final int NAME_SORTS = 3;
+
     private static final int MOST_VARIABLES = 12;
     private static final int MOST_OF_ROW = 8;
     private static final int MOST_TABLES = 8;
@@ -23,6 +29,7 @@ public final class SolverHouse {
     private static final int MOST_TOKENS = 400;
     private static final int MOST_AROUND = 12;
     private static final int MOST_PLANS = 20000;
+    private static final int MOST_OF_INT = 9999;
     private static final int MOST_OF_RANGE = 999;
     private static final int MOST_WEIGHT = 99;
     private static final int MOST_OF_EXP = 1000000;
@@ -192,14 +199,18 @@ public final class SolverHouse {
     }
 
     public int told(int p, int what, int k) {
+        // What no problem ever tells is BAD, whether there is a problem now or not.
+        if (what < 0 || what > TOLD_ON) {
+            return BAD;
+        }
         Problem q = problemAt(p);
         if (q == null) {
             return lacking(p);
         }
-        if (what >= 0 && what <= 4) {
+        if (what <= TOLD_LEFT) {
             return toldOfAll(q, what);
         }
-        if (what >= 5 && what <= 7) {
+        if (what <= TOLD_PINNED) {
             return toldOfVariable(q, what, k);
         }
         return toldOfItem(q.rules, what, k);
@@ -234,12 +245,14 @@ public final class SolverHouse {
             case 8: return rules.kinds[k];
             case 9: return rules.levels[k];
             case 10: return rules.weights[k];
-            case 11: return rules.isOn(k) ? 1 : 0;
-            default: return BAD;
+            default: return rules.isOn(k) ? 1 : 0;
         }
     }
 
     public int name(int p, int sort, int k, int i) {
+        if (sort < 0 || sort >= NAME_SORTS) {
+            return BAD;
+        }
         Problem q = problemAt(p);
         if (q == null) {
             return lacking(p);
@@ -672,16 +685,33 @@ public final class SolverHouse {
                     return false;
                 }
             }
+            return range(nameAt, size);
+        }
+
+        /**
+         * Takes INT .. INT ; whose fault is met at the second INT, also when the first is too
+         * great. A first that is too little is met at itself: SolverHouseRuns asks for that.
+         */
+        private boolean range(int nameAt, int size) {
             int first = at;
-            if (!rangeEnd(-MOST_OF_RANGE) || !take(DOTS)) {
+            if (!rangeEnd(-MOST_OF_RANGE, MOST_OF_INT) || !take(DOTS)) {
                 return false;
             }
             int second = at;
-            if (!rangeEnd(integerAt(first)) || !take(';')) {
+            if (!rangeEnd(integerAt(first), MOST_OF_RANGE) || !take(';')) {
                 return false;
             }
             spare.addVariables(tokens.text(nameAt), size, integerAt(first), integerAt(second));
             return true;
+        }
+
+        private boolean rangeEnd(int least, int greatest) {
+            int begin = at;
+            if (!integer()) {
+                return false;
+            }
+            int number = integerAt(begin);
+            return number < least || number > greatest ? refuse(FAULT_NUMBER, tokens.start(begin)) : true;
         }
 
         /** Takes [ NUMBER ]: the number, 0 with a fault. */
@@ -698,18 +728,6 @@ public final class SolverHouse {
                 return 0;
             }
             return take(']') ? size : 0;
-        }
-
-        private boolean rangeEnd(int least) {
-            int begin = at;
-            if (!integer()) {
-                return false;
-            }
-            int number = integerAt(begin);
-            if (number < least || number > MOST_OF_RANGE) {
-                return refuse(FAULT_NUMBER, tokens.start(begin));
-            }
-            return true;
         }
 
         private boolean tableItem() {
@@ -1548,11 +1566,15 @@ public final class SolverHouse {
 
         /** What an operation gives, which FAILS beyond what exps may be. */
         private void give(long number) {
-            if (number < -MOST_OF_EXP || number > MOST_OF_EXP) {
+            if (isBeyond(number)) {
                 failed = true;
             } else {
                 push((int) number);
             }
+        }
+
+        private static boolean isBeyond(long number) {
+            return number < -MOST_OF_EXP || number > MOST_OF_EXP;
         }
 
         /** A cond that settles it stays on the stack for what is skipped. */
@@ -1669,7 +1691,9 @@ public final class SolverHouse {
                         result = Math.max(result, number);
                         break;
                     case S_SUM:
+                        // Each addition is an operation: it FAILS though the whole be within.
                         result += number;
+                        failed = failed || isBeyond(result);
                         break;
                     default:
                         result += number == sought ? 1 : 0;
@@ -1677,7 +1701,7 @@ public final class SolverHouse {
                 }
             }
             top = from;
-            give(result);
+            push((int) result);
         }
 
         /** Makes one truth of the last numbers on the stack. */

@@ -249,9 +249,12 @@ final class Oracle {
             }
             place = here().place;
             range[end] = integer();
-            if (Math.abs(range[end]) > 999 || end == 1 && range[1] < range[0]) {
+            if (range[0] < -999) {
                 throw new Fault(6, place);
             }
+        }
+        if (range[0] > 999 || range[1] > 999 || range[1] < range[0]) {
+            throw new Fault(6, place);
         }
         expect(";");
         if (size > 0) {
@@ -516,6 +519,14 @@ final class Oracle {
         return (int) n;
     }
 
+    private static int added(int[] numbers) throws Fails {
+        int whole = 0;
+        for (int n : numbers) {
+            whole = within((long) whole + n);
+        }
+        return whole;
+    }
+
     private Exp exp(int depth) throws Fault {
         Exp all = product(depth);
         while (sees("+") || sees("-")) {
@@ -578,7 +589,7 @@ final class Oracle {
             return plan -> {
                 java.util.stream.IntStream v = java.util.Arrays.stream(all(list, plan));
                 return which.equals("min") ? v.min().getAsInt() : which.equals("max") ? v.max().getAsInt()
-                    : within(v.asLongStream().sum());
+                    : added(v.toArray());
             };
         }
         if (sees("abs")) {

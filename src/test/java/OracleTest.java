@@ -323,10 +323,10 @@ public final class OracleTest {
             } else {
                 plain.add(name);
             }
-            int least = pick(7) - 3;
+            int least = chance(1) ? -999 - pick(3) : pick(7) - 3;
             integer(least);
             say("..");
-            integer(least + wide - 1);
+            integer(chance(1) ? 1000 : least + wide - 1);
             say(";");
         }
     }
@@ -460,7 +460,7 @@ public final class OracleTest {
     }
 
     private void unit(int depth) {
-        int which = pick(depth > 3 ? 8 : 15);
+        int which = pick(depth > 3 ? 8 : chance(15) ? 15 : 14);
         if (which < 4 && !plain.isEmpty()) {
             say(plain.get(pick(plain.size())));
         } else if (which < 7) {
@@ -498,6 +498,15 @@ public final class OracleTest {
             }
             unit(depth + 2);
             say("]");
+        } else if (which == 14) {
+            // Near what exps may be, so that sums go beyond it on their way.
+            say("sum", "(", "9999", "*", "100", ",");
+            integer(chance(50) ? 100 : -100);
+            say(",");
+            exp(depth + 1);
+            say(",");
+            exp(depth + 1);
+            say(")");
         } else {
             say(Integer.toString(pick(4)));
         }

@@ -8,6 +8,7 @@ public final class ToldTest {
         told();
         wrong();
         names();
+        never();
         turning();
         pinning();
         planning();
@@ -84,6 +85,26 @@ public final class ToldTest {
         spelt(house, -1, 0, "");
         due("name p 3", house.name(3, 0, 0, 0), -2);
         due("name p 4", house.name(4, 0, 0, 0), -1);
+    }
+
+    /** What no problem could ever tell is BAD, also while there is no problem. */
+    private static void never() {
+        SolverHouse[] houses = {new SolverHouse(), CHECKS.house(TEXT)};
+        int[] beyond = {-1, Integer.MIN_VALUE, Integer.MAX_VALUE};
+        for (SolverHouse house : houses) {
+            for (int n : beyond) {
+                due("told of nothing, what " + n, house.told(1, n, 0), -1);
+                due("name of nothing, sort " + n, house.name(1, n, 0, 0), -1);
+            }
+            due("told of nothing, what 12", house.told(1, 12, 0), -1);
+            due("name of nothing, sort 3", house.name(1, 3, 0, 0), -1);
+            for (int what = 0; what <= 11; what++) {
+                due("told of nothing, what " + what, house.told(1, what, 0), -2);
+            }
+            for (int sort = 0; sort <= 2; sort++) {
+                due("name of nothing, sort " + sort, house.name(1, sort, 0, 0), -2);
+            }
+        }
     }
 
     private static void turning() {

@@ -29,7 +29,6 @@ public final class SolverHouse {
     private static final int MOST_TOKENS = 400;
     private static final int MOST_AROUND = 12;
     private static final int MOST_PLANS = 20000;
-    private static final int MOST_OF_INT = 9999;
     private static final int MOST_OF_RANGE = 999;
     private static final int MOST_WEIGHT = 99;
     private static final int MOST_OF_EXP = 1000000;
@@ -688,13 +687,10 @@ public final class SolverHouse {
             return range(nameAt, size);
         }
 
-        /**
-         * Takes INT .. INT ; whose fault is met at the second INT, also when the first is too
-         * great. A first that is too little is met at itself: SolverHouseRuns asks for that.
-         */
+        /** Takes INT .. INT ; where each INT's fault is met at itself, and a first above the second at the second. */
         private boolean range(int nameAt, int size) {
             int first = at;
-            if (!rangeEnd(-MOST_OF_RANGE, MOST_OF_INT) || !take(DOTS)) {
+            if (!rangeEnd(-MOST_OF_RANGE, MOST_OF_RANGE) || !take(DOTS)) {
                 return false;
             }
             int second = at;

@@ -249,12 +249,9 @@ final class Oracle {
             }
             place = here().place;
             range[end] = integer();
-            if (range[0] < -999) {
+            if (Math.abs(range[end]) > 999 || end == 1 && range[1] < range[0]) {
                 throw new Fault(6, place);
             }
-        }
-        if (range[0] > 999 || range[1] > 999 || range[1] < range[0]) {
-            throw new Fault(6, place);
         }
         expect(";");
         if (size > 0) {

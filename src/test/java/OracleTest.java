@@ -323,7 +323,7 @@ public final class OracleTest {
             } else {
                 plain.add(name);
             }
-            int least = chance(1) ? -999 - pick(3) : pick(7) - 3;
+            int least = chance(1) ? -999 - pick(3) : chance(1) ? 999 + pick(3) : pick(7) - 3;
             integer(least);
             say("..");
             integer(chance(1) ? 1000 : least + wide - 1);

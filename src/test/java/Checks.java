@@ -32,6 +32,32 @@ final class Checks {
         return house;
     }
 
+    /** The text has this fault at the place of the byte ^, which is no part of it. */
+    void fault(int kind, String marked) {
+        int place = marked.indexOf('^');
+        String text = marked.substring(0, place) + marked.substring(place + 1);
+        SolverHouse house = new SolverHouse();
+        due("problem(1) of " + marked, read(house, 1, text), -10 - kind);
+        due("place() of " + marked, house.place(), place);
+        due("told(1) of " + marked, house.told(1, 0, 0), -2);
+        due("the tape after " + marked, house.cut(0), 0);
+    }
+
+    /** The text has no fault and this space. */
+    void fine(String text, int space) {
+        SolverHouse house = new SolverHouse();
+        due("problem(1) of " + text, read(house, 1, text), space);
+        due("place() of " + text, house.place(), -2);
+    }
+
+    static String times(int n, String text) {
+        StringBuilder all = new StringBuilder();
+        for (int i = 0; i < n; i++) {
+            all.append(text);
+        }
+        return all.toString();
+    }
+
     void due(String what, long got, long want) {
         made++;
         if (got != want) {

@@ -19,29 +19,16 @@ public final class FaultTest {
         CHECKS.end();
     }
 
-    /** The text has this fault at the place of the byte ^, which is no part of it. */
     private static void fault(int kind, String marked) {
-        int place = marked.indexOf('^');
-        String text = marked.substring(0, place) + marked.substring(place + 1);
-        SolverHouse house = new SolverHouse();
-        CHECKS.due("problem(1) of " + marked, Checks.read(house, 1, text), -10 - kind);
-        CHECKS.due("place() of " + marked, house.place(), place);
-        CHECKS.due("told(1) of " + marked, house.told(1, 0, 0), -2);
-        CHECKS.due("the tape after " + marked, house.cut(0), 0);
+        CHECKS.fault(kind, marked);
     }
 
     private static void fine(String text, int space) {
-        SolverHouse house = new SolverHouse();
-        CHECKS.due("problem(1) of " + text, Checks.read(house, 1, text), space);
-        CHECKS.due("place() of " + text, house.place(), -2);
+        CHECKS.fine(text, space);
     }
 
     private static String times(int n, String text) {
-        StringBuilder all = new StringBuilder();
-        for (int i = 0; i < n; i++) {
-            all.append(text);
-        }
-        return all.toString();
+        return Checks.times(n, text);
     }
 
     private static void strays() {

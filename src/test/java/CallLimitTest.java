@@ -21,6 +21,7 @@ public final class CallLimitTest {
         problems();
         oneBeforeStays();
         allNew();
+        newKinds();
         places();
         telling();
         naming();
@@ -256,6 +257,25 @@ public final class CallLimitTest {
         due("allowed", house.allowed(2), 2);
         due("a name of it", house.name(2, 0, 0, 0), 'y');
         due("no name of the one before", house.name(2, 0, 1, 0), BAD);
+    }
+
+    /** What was a rule, soft or cost in an older text, sound or not, is what the new one tells. */
+    private static void newKinds() {
+        String[] kinds = {"rule 1 = 2;", "soft 1 5: 1 = 2;", "cost 2: 3;"};
+        int[][] want = {{0, 0, 0, 0}, {1, 0, 5, 0}, {1, 0, 0, 3}};
+        SolverHouse house = new SolverHouse();
+        for (int n = 0; n < 54; n++) {
+            Checks.read(house, 0, Checks.times(3, kinds[n % 3]) + (n % 2 == 0 ? "$" : ""));
+            int kind = n / 3 % 3;
+            due("problem", Checks.read(house, 0, kinds[kind]), 1);
+            due("judge of " + kinds[kind], house.judge(0), want[kind][0]);
+            for (int level = 0; level < 3; level++) {
+                due("level " + level + " of " + kinds[kind], house.score(level), want[kind][level + 1]);
+            }
+            due("allowed of " + kinds[kind], house.allowed(0), want[kind][0]);
+            due("core of " + kinds[kind], house.core(0), 1 - want[kind][0]);
+            due("kind of " + kinds[kind], house.told(0, 8, 0), kind);
+        }
     }
 
     // Promise 5: "The place of the latest problem()'s FAULT; NO when it had none, and before."

@@ -94,6 +94,9 @@ public final class FaultTest {
         fault(2, "rule distinct(1, ^);");
         fault(2, "rule distinct(1 ^| 1);");
         fault(2, "rule distinct(1) ^= 1;");
+        fault(2, "rule fits(^);");
+        fault(2, "rule fits(1^);");
+        fault(2, "rule fits(1, 1^);");
         fault(2, "rule fits(1 ^| 1);");
         fault(2, "rule fits(1, 1 ^| 1);");
         fault(2, "rule fits(1, 1, 1 ^);");

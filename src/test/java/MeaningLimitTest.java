@@ -404,6 +404,11 @@ public final class MeaningLimitTest {
         holds("fits(0, 2, 2 | 0, 2, -1 | 1)");
         broken("fits(0, 3, 2 | 0, 2, -1 | 1)");
         broken("fits(0, 2, 2 | 1, 1, -1 | 1)");
+        broken("fits(0, 9, 2 | 0, 5, -1 | 1)");
+        broken("fits(0, 9, 2 | 0, 8, -1 | 1)");
+        holds("fits(0, 9, 2 | 0, 9, -1 | 1)");
+        holds("fits(0, 9, 2 | 0, 10, -1 | 1)");
+        broken("fits(-4, 9, 2 | -5, 9, -1 | 1)");
         broken("fits(0, 1, 1 | 0, 1, 1 | 0, 1, 1 | 2)");
         holds("fits(0, 1, 1 | 0, 1, 1 | 0, 1, 1 | 3)");
         holds("fits(1000 * 1000, 1, 1 | -1000 * 1000, 1, 1 | 1)");
@@ -433,6 +438,14 @@ public final class MeaningLimitTest {
     // "A plan FAILS if an exp that is asked FAILS in any rule, soft or cost (.. in the order of the text, all of them)"
 
     private static void failing() {
+        SolverHouse all = CHECKS.house(Checks.times(16, "cost 0: 1 / 0;"));
+        due("judge when all fail", all.judge(0), 2);
+        due("the first of all that fail", all.score(3), 0);
+        // What a plan that FAILS leaves undone does not touch the plans behind it.
+        SolverHouse half = CHECKS.house("var x 1..100; var y 1..200; cost 0: x + y + (x + y) * (1 / (x mod 2)); rule y > 0;");
+        due("half of them fail", half.fails(0), 10000);
+        due("the others are allowed", half.allowed(0), 10000);
+        due("the last one", half.having(0, 1, 200), 50);
         String[] items = {"rule 1 / @ = 1;", "soft 0 1: 1 / @ = 1;", "cost 0: 1 / @;"};
         for (int first = 0; first < 3; first++) {
             for (int second = 0; second < 3; second++) {

@@ -31,7 +31,7 @@ public final class OracleTest {
 
     private void run() {
         for (int n = 0; n < ROUNDS; n++) {
-            String text = text();
+            String text = n % 6 == 5 ? crowdedText() : text();
             SolverHouse house = new SolverHouse();
             // An older problem in the slot must not shine through.
             if (chance(30)) {
@@ -271,13 +271,17 @@ public final class OracleTest {
 
     // ---- texts
 
-    private String text() {
+    private void clear() {
         out.clear();
         plain.clear();
         rows.clear();
         tables.clear();
         widths.clear();
         heights.clear();
+    }
+
+    private String text() {
+        clear();
         variables();
         for (int n = pick(3); n > 0; n--) {
             table();
@@ -290,6 +294,50 @@ public final class OracleTest {
         }
         String text = join();
         return chance(8) ? spoil(text) : text;
+    }
+
+    // ---- texts about as full as texts may be
+
+    private String crowdedText() {
+        clear();
+        int limit = pick(5);
+        int variables = limit == 0 ? 11 + pick(3) : pick(6);
+        for (int told = 0; told < variables;) {
+            int size = chance(40) ? 1 + pick(5) : 0;
+            say("var", "v" + told);
+            if (size > 0) {
+                say("[", Integer.toString(size), "]");
+            }
+            (size > 0 ? rows : plain).add("v" + told);
+            say("0", "..", Integer.toString(pick(2)), ";");
+            told += Math.max(1, size);
+        }
+        crowdedTables(limit == 1 ? 7 + pick(3) : pick(3), limit == 2 ? 23 + pick(3) : 1 + pick(3));
+        for (int n = limit == 3 ? 15 + pick(3) : pick(4); n > 0; n--) {
+            item();
+        }
+        if (limit == 4) {
+            say("cost", "1", ":", "1");
+            for (int most = 398 + pick(4); out.size() < most;) {
+                say(pick(9) == 0 ? "-" : "+", "1");
+            }
+            say(";");
+        }
+        if (chance(20)) {
+            mutate();
+        }
+        return join();
+    }
+
+    private void crowdedTables(int count, int numbers) {
+        for (int t = 0; t < count; t++) {
+            say("table", "t" + t, "=");
+            int width = 1 + pick(numbers);
+            for (int n = 1; n <= numbers; n++) {
+                integer(pick(9) - 4);
+                say(n == numbers ? ";" : n % width == 0 ? "|" : ",");
+            }
+        }
     }
 
     private void say(String... words) {

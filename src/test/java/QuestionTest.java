@@ -208,6 +208,10 @@ public final class QuestionTest {
         due("first", house.pair(0, 1), 19999);
         due("last", house.pair(19999, 0), 0);
         due("behind", house.pair(20000, 0), 10000000);
+        for (int i = 0; i < 20000; i++) {
+            due("first of " + i, house.pair(i, 0), i - 19999);
+            due("second of " + i, house.pair(i, 1), 19999 - i);
+        }
         due("front turned", house.front(0, 1, 0), 20000);
         due("seventh", house.pair(7, 0), 7);
         due("seventh", house.pair(7, 1), -7);

@@ -186,6 +186,7 @@ public final class TextLimitTest {
 
     private static void longestTokens() {
         fine("var x 0..1;rule x<=1;rule x>=-1;rule x!=2;rule 1=1->1=1;rule x<-1;rule x>-1;", 2);
+        fine("rule 1>=1;rule 1<=1;rule 1!=2;rule 1=1->1=1;var x 0..1;", 2);
         fine("rule 1=1or 1=1and 1=1;rule not{1=2};rule 2mod 3=2;", 1);
         fault(2, "rule 2 ^mod3 = 2;");
         fault(2, "^rule1 = 1;");
@@ -549,6 +550,15 @@ public final class TextLimitTest {
         fault(5, head + "rule ^q = 0;");
         fault(5, head + "cost 0: ^q;");
         fine("var q[1] 0..0; table t = 0; rule distinct(q) and in t (q);", 1);
+        // A NUMBER that is the byte of a row's NAME stays a NUMBER.
+        for (char letter = 'A'; letter <= 'z'; letter++) {
+            if (Character.isLetter(letter)) {
+                String text = "var " + letter + "[2] 0..0; cost 0: sum(" + (int) letter + ", " + letter + ");";
+                SolverHouse house = CHECKS.house(text);
+                house.judge(0);
+                CHECKS.due(text, house.score(0), letter);
+            }
+        }
     }
 
     // "6 a row's NUMBER is not 1 .. 8"

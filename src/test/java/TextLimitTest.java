@@ -178,6 +178,13 @@ public final class TextLimitTest {
         }
         fine("cost 0: 9999;", 1);
         fine("table t = 9999, -9999;", 1);
+        // "INT: perhaps - and a NUMBER."
+        fault(2, "var x ^+1..2;");
+        fault(2, "var x -^-1..2;");
+        fault(2, "var x 0..-^-2;");
+        fault(2, "table t = ^+1;");
+        fault(2, "table t = -^x;");
+        fault(2, "table t = ^(1);");
         fault(2, "cost 0: 9999 ^9;");
         fault(2, "cost 0: 1^x;");
     }
